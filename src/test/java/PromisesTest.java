@@ -462,6 +462,8 @@ public final class PromisesTest {
         tell(x, "h0,0;m99,20;s0,1,30;s0,1,31;");
         due("a slow one in the 59th", x.filled(0), 59);
         due("a slow one never in time", x.filled(1), NONE);
+        x.minutes(1);
+        due("a slow one in the last MINUTE", x.filled(1), 60);
     }
 
     private static void outsAndShakes() {
@@ -492,6 +494,7 @@ public final class PromisesTest {
         due("shakes(0, 31, 0)", x.shakes(0, 31, 0), BAD);
         due("shakes(2, 1, 0)", x.shakes(2, 1, 0), BAD);
         due("shakes(0, 1, -1)", x.shakes(0, 1, -1), BAD);
+        due("shakes(0, 1, 2)", x.shakes(0, 1, 2), BAD);
         // COLD now is not behind a MINUTE; and COLD on the way does not matter to SHAKE
         tell(x, "h0,5;m5,1;p1,1,1;");
         promise = "22";
@@ -511,6 +514,8 @@ public final class PromisesTest {
         due("hang(0, 2, 1)", x.hang(0, 2, 1), 8);
         due("hang(0, 3, 0)", x.hang(0, 3, 0), 1);
         due("hang(0, 3, 1)", x.hang(0, 3, 1), 12);
+        due("hang(0, 1, 1)", x.hang(0, 1, 1), 4);
+        due("hang(0, 30, 1)", x.hang(0, 30, 1), 40);
         due("hang(0, 0, 0)", x.hang(0, 0, 0), BAD);
         due("hang(0, 31, 0)", x.hang(0, 31, 0), BAD);
         due("hang(2, 1, 0)", x.hang(2, 1, 0), BAD);
@@ -559,6 +564,7 @@ public final class PromisesTest {
         due("pours(0, 4, 1)", x.pours(0, 4, 1), 40);
         due("pours(0, 4, 2)", x.pours(0, 4, 2), NONE);
         due("pours(5, 1, -1)", x.pours(5, 1, -1), NONE);
+        threePourings();
         due("pours(6, 0, 0)", x.pours(6, 0, 0), BAD);
         due("pours(0, 41, 0)", x.pours(0, 41, 0), BAD);
         due("pours(0, -1, 0)", x.pours(0, -1, 0), BAD);
@@ -580,6 +586,27 @@ public final class PromisesTest {
         due("mix(0, 1000, 0)", x.mix(0, 1000, 0), BAD);
         due("mix(0, 999, 0)", x.mix(0, 999, 0), 0);
         due("mix(0, 0, 2)", x.mix(0, 0, 2), BAD);
+        tell(x, "h0,0;m0,0;p0,1,1;p1,1,1;");
+        due("mix(0, 0, 0)", x.mix(0, 0, 0), 2);
+        due("mix(0, 0, 1)", x.mix(0, 0, 1), 0);
+    }
+
+    /** Eight, five and three: 6 needs all the POURINGS there may be. */
+    private static void threePourings() {
+        WarmTubes x = told("h0,0;m99,0;p0,8,8;p1,1,5;p1,1,3;");
+        x.minutes(1);
+        due("pours elsewhere", x.pours(0, 3, -1), NONE);
+        x.carry(1, 0);
+        x.carry(2, 0);
+        int[] six = {1, 12, 20};
+        due("pours(0, 6, -1)", x.pours(0, 6, -1), 3);
+        for (int k = 0; k < six.length; k++) {
+            due("pours(0, 6, " + k + ")", x.pours(0, 6, k), six[k]);
+        }
+        due("pours(0, 6, 3)", x.pours(0, 6, 3), NONE);
+        due("pours(1, 2, -1)", x.pours(1, 2, -1), 2);
+        due("pours(0, 1, -1)", x.pours(0, 1, -1), NONE);
+        due("tube(0, 3) behind all that", x.tube(0, 3), 8);
     }
 
     private static void sales() {
@@ -589,6 +616,7 @@ public final class PromisesTest {
         due("sale(0, 30, 10, 1, 1)", x.sale(0, 30, 10, 1, 1), 70);
         due("sale(0, 2, 10, 1, 0)", x.sale(0, 2, 10, 1, 0), 2);
         due("sale(0, 2, 10, 1, 1)", x.sale(0, 2, 10, 1, 1), 64);
+        due("sale(0, 1, 10, 1, 1)", x.sale(0, 1, 10, 1, 1), 36);
         due("sale(0, 30, 1, 9, 0)", x.sale(0, 30, 1, 9, 0), 0);
         due("sale(0, 30, 1, 9, 1)", x.sale(0, 30, 1, 9, 1), 0);
         due("sale(0, 30, 99, 0, 0)", x.sale(0, 30, 99, 0, 0), 3);
@@ -689,6 +717,9 @@ public final class PromisesTest {
             due("drawn(" + n + ", 1, 0)", x.drawn(n, 1, 0), cold[n]);
             due("drawn(" + n + ", 1, 1)", x.drawn(n, 1, 1), 150);
         }
+        x.minutes(1);
+        due("drawn(0, 1, 0) from now on", x.drawn(0, 1, 0), 1);
+        x.undo();
         due("drawn(61, 1, 0)", x.drawn(61, 1, 0), BAD);
         due("drawn(-1, 1, 0)", x.drawn(-1, 1, 0), BAD);
         due("drawn(1, 0, 0)", x.drawn(1, 0, 0), BAD);
