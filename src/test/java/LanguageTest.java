@@ -5,9 +5,12 @@ import java.lang.reflect.Method;
 import java.lang.reflect.Modifier;
 import java.nio.file.Files;
 import java.nio.file.Path;
+import java.util.ArrayList;
 import java.util.HashSet;
 import java.util.List;
+import java.util.Map;
 import java.util.Set;
+import java.util.TreeMap;
 import java.util.TreeSet;
 import java.util.regex.Matcher;
 import java.util.regex.Pattern;
@@ -32,6 +35,7 @@ public final class LanguageTest {
         members();
         words(lines);
         sizes(lines);
+        depths(lines);
         System.out.println(wrong == 0 ? "the rules are kept" : wrong + " rules are broken");
         if (wrong != 0) {
             System.exit(1);
@@ -80,9 +84,23 @@ public final class LanguageTest {
         rule(11, "too many classes", inside.length <= 11);
         for (Class<?> c : inside) {
             rule(2, c + " is not static", Modifier.isStatic(c.getModifiers()));
+            rule(1, c + " is public or protected", (c.getModifiers() & (Modifier.PUBLIC | Modifier.PROTECTED)) == 0);
+            rule(2, c + " has a class inside", c.getDeclaredClasses().length == 0);
             fields(c);
+            methods(c);
         }
         fields(WarmTubes.class);
+    }
+
+    private static void methods(Class<?> c) {
+        Set<String> face = new HashSet<>();
+        for (Method m : WarmTubes.class.getMethods()) {
+            face.add(m.getName());
+        }
+        for (Method m : c.getDeclaredMethods()) {
+            rule(1, m + " bears a public name", !Modifier.isPrivate(m.getModifiers()) || !face.contains(m.getName()));
+            rule(11, m + " has too many parameters", m.getParameterCount() <= 7);
+        }
     }
 
     private static void fields(Class<?> c) {
@@ -122,5 +140,52 @@ public final class LanguageTest {
                     ? begun : -1;
             }
         }
+    }
+
+    /** Which methods each method's text names, with a bracket behind: those are the ones that it calls. */
+    private static void depths(List<String> lines) {
+        Pattern begins = Pattern.compile("( {4}| {8})(?! )(?:\\w+(?:\\[\\])? )+(\\w+)\\([^=;]*\\) \\{");
+        Map<String, StringBuilder> bodies = new TreeMap<>();
+        StringBuilder body = new StringBuilder();
+        for (String line : lines) {
+            Matcher m = begins.matcher(line);
+            if (m.matches()) {
+                body = bodies.computeIfAbsent(m.group(2), name -> new StringBuilder());
+            } else {
+                body.append(line.replaceAll("//.*|^\\s*/?\\*.*", "")).append('\n');
+            }
+        }
+        Map<String, Set<String>> calls = new TreeMap<>();
+        for (String name : bodies.keySet()) {
+            Set<String> called = new TreeSet<>();
+            Matcher m = Pattern.compile("(\\w+)\\(").matcher(bodies.get(name));
+            while (m.find()) {
+                if (bodies.containsKey(m.group(1)) && !m.group(1).equals(name)) {
+                    called.add(m.group(1));
+                }
+            }
+            calls.put(name, called);
+        }
+        rule(11, "hardly any methods are seen", calls.size() > 80);
+        for (String name : calls.keySet()) {
+            List<String> chain = longest(name, calls, new HashSet<>());
+            rule(11, "calls go too deep: " + chain, chain.size() <= 8);
+        }
+    }
+
+    private static List<String> longest(String name, Map<String, Set<String>> calls, Set<String> open) {
+        List<String> best = new ArrayList<>();
+        // a method that is open already is a recursion between methods: rule 8 bounds it, this one need not
+        if (!open.add(name)) {
+            return best;
+        }
+        for (String called : calls.get(name)) {
+            List<String> chain = longest(called, calls, open);
+            best = chain.size() > best.size() ? chain : best;
+        }
+        open.remove(name);
+        List<String> whole = new ArrayList<>(List.of(name));
+        whole.addAll(best);
+        return whole;
     }
 }
