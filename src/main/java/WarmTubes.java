@@ -494,7 +494,7 @@ public final class WarmTubes {
             return BAD;
         }
         int is = now.sort[one];
-        for (int step = 0; step < KINDS && is >= 0; step++) {
+        for (int step = 0; step < KINDS && within(is, 0, KINDS - 1); step++) {
             if (is == kind) {
                 return plain(one);
             }
